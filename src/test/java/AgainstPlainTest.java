@@ -91,18 +91,20 @@ public final class AgainstPlainTest {
         int[] toysOf = {4, 9, 16, 12};
         int[] familiesOf = {3, 6, 10, 10};
         int many = upTo(1, kindsOf[size]);
-        for (int k = 0; k < many; k++) {
+        for (int i = 0; i < 20 && plain.kinds.size() < many; i++) {
             kind();
+        }
+        for (int k = 0; k < plain.kinds.size(); k++) {
             for (int p = 0; p < 6; p++) {
                 if (random.nextInt(3) > 0) {
                     pieces(k, p);
                 }
             }
         }
-        for (int i = 0; i < familiesOf[size]; i++) {
+        for (int i = 0; i < 20 && plain.families.size() < familiesOf[size]; i++) {
             family();
         }
-        for (int i = 0; i < toysOf[size]; i++) {
+        for (int i = 0; i < 30 && plain.toys.size() < toysOf[size]; i++) {
             toy();
         }
         rules();

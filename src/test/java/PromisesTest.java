@@ -42,6 +42,7 @@ public final class PromisesTest {
         where();
         check();
         count();
+        fullHouse();
         DUES.end();
     }
 
@@ -1070,6 +1071,7 @@ public final class PromisesTest {
         x.family(5, 0, 1);
         due("not for all", x.why(0, 1), 8);
         x.gift(0, 0, 0);
+        due("the only other one is barred", x.not(0, 1), 5);
         due("not barred for all", x.why(0, 1), 8);
         x.gift(0, 1, 0);
         due("barred for all", x.why(0, 1), 7);
@@ -1083,6 +1085,15 @@ public final class PromisesTest {
 
     private static void whyOfWorn() {
         ToyHouse x = new ToyHouse();
+        x.kind(0, 1, 0, 0, 1);
+        x.toy(0, 0);
+        x.family(0, 0, 0);
+        x.gift(0, 2, 3);
+        x.now(3);
+        due("not barred yet", x.why(0, 1), 8);
+        x.now(4);
+        due("barred for the only one", x.why(0, 1), 7);
+        x = new ToyHouse();
         x.kind(5, 1, 9, 0, 3);
         x.pieces(0, 0, 1, 1);
         x.toy(0, 0);
@@ -1189,6 +1200,8 @@ public final class PromisesTest {
         due("one too much", Dues.check(x, 0, 3, 0, 2, 2, 1, 3, 0), 4);
         due("four bytes each", Dues.check(x, 0, 2, 0, 0x102, 2, 1), 1);
         due("the highest byte", Dues.check(x, 0, 2, 1 << 24, 2, 2, 1), 0);
+        due("the highest bits", Dues.check(x, 0, 2, 0, 0xE0000002, 2, 1), 1);
+        due("less than nothing", Dues.check(x, 0, 2, 0, 2, 2, -1), 3);
         lendAndBack(x, 0, 0, 1);
         due("what it has", Dues.check(x, 0, 2, 0, 1, 2, 0), -1);
         x.kind(0, 1, 0, 0, 1);
@@ -1224,5 +1237,59 @@ public final class PromisesTest {
         due("who waits", x.count(10), 1);
         due("family 0 has two", x.count(20), 2);
         due("family 1 has none", x.count(21), 0);
+    }
+
+    /** As many kinds, toys and families as can be: the last of each counts as the first. */
+    private static void fullHouse() {
+        ToyHouse x = new ToyHouse();
+        for (int k = 0; k < 8; k++) {
+            x.kind(0, 100 + k, 0, k % 2, 99);
+            x.pieces(k, 5, 2, 7);
+        }
+        for (int t = 0; t < 16; t++) {
+            x.toy(t / 2, t);
+        }
+        for (int f = 0; f < 10; f++) {
+            x.family(f, 0, 4);
+        }
+        for (int t = 0; t < 16; t++) {
+            x.lend(t, 9);
+        }
+        due("family 9 has all", x.count(29), 16);
+        x.recall(1, 15, 15);
+        due("toy 15", x.recalled(0, 0), 1 << 15);
+        due("family 9", x.recalled(0, 3), 1 << 9);
+        due("family 9 is told", x.told(0, 9), true);
+        due("once", x.told(0, 9), false);
+        due("in time", x.recalled(0, 2), 1);
+        due("nobody open", x.recalled(0, 3), 0);
+        for (int t = 0; t < 16; t++) {
+            Dues.back(x, t, 0, 0, 0, 0, 0, 1);
+        }
+        due("all may be mended", x.mending(6000, 0), 65535);
+        due("all their minutes", x.mending(160, 1), 160);
+        due("all but the last", x.mending(159, 0), 32767);
+        due("family 9 waits for kind 7", x.waits(9, 7), true);
+        due("once", x.waits(9, 7), false);
+        due("one waits", x.count(17), 1);
+        due("who comes next", x.next(7, 0), 9);
+        due("the last ones first", x.mending(20, 0), 3 << 14);
+        due("a van with toy 14", x.van(4, 6, 0), 1 << 14);
+        due("bought of kind 7", x.buying(60000, 1, 7), 2);
+        due("its coin", x.buying(60000, 1, 8), 214);
+        due("two of toys 14 and 15 whole in part", x.whole(7, 2), 0);
+        due("toys 0 and 1 make one", x.whole(0, 2), 1);
+        for (int f = 0; f < 9; f++) {
+            for (int k = 0; k < 8; k++) {
+                x.waits(f, k);
+            }
+        }
+        due("three of each", x.buying(60000, 3, -1), 24);
+        due("their coin", x.buying(60000, 3, 8), 3 * 828);
+        due("the cheapest", x.buying(100, 3, 0), 1);
+        due("a full van", x.van(4, 6, 0), 63);
+        due("six families", x.van(4, 6, 1), 6);
+        due("leaves kind 7", x.leaves(9, 7), true);
+        due("leaves once", x.leaves(9, 7), false);
     }
 }

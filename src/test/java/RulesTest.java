@@ -259,6 +259,17 @@ public final class RulesTest {
         return Dues.back(house, 0, 1);
     }
 
+    private static int lostFor(String text) {
+        ToyHouse house = new ToyHouse();
+        house.kind(3, 500, 4, 2, 9);
+        house.pieces(0, 0, 3, 1);
+        house.toy(0, 0);
+        house.family(7, 5, 2);
+        Dues.rules(house, text);
+        house.lend(0, 0);
+        return house.lost(0);
+    }
+
     private static void bounds() {
         DUES.due("d none", lent("o(1=1)"), 21);
         DUES.due("d none holds", lent("d5(1=2)"), 21);
@@ -275,6 +286,9 @@ public final class RulesTest {
         DUES.due("p7", owedFor("p7(1=1)"), 14);
         DUES.due("p99999*2", owedFor("p99999*2(1=1)"), 200000);
         DUES.due("p and f", owedFor("p7(1=1);f5(1=1);p9(1=1);f3(1=1)"), 19);
+        DUES.due("p99999*2, lost", lostFor("p99999*2(1=1)"), 300000);
+        DUES.due("p0-1, lost", lostFor("p0-1(1=1)"), 0);
+        DUES.due("no p, lost", lostFor("f5(1=1)"), 0);
         DUES.due("n99999*2", turn("99999*2"), 100000);
         DUES.due("n0-99999*2", turn("0-99999*2"), -100000);
     }
