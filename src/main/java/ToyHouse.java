@@ -1636,6 +1636,8 @@ public final class ToyHouse {
         final int[] row;
         final int[] fewestRow;
         final int[] weightFrom;
+        final int[] waysFrom;
+        final int[] sortsFrom;
         int low;
         int high;
         int ways;
@@ -1647,6 +1649,9 @@ public final class ToyHouse {
             row = new int[SORTS];
             fewestRow = new int[SORTS];
             weightFrom = new int[SORTS + 1];
+            waysFrom = new int[SORTS + 1];
+            sortsFrom = new int[SORTS + 1];
+            waysFrom[SORTS] = 1;
         }
 
         void search(Toy toy, int lackingWeight, int error) {
@@ -1657,7 +1662,10 @@ public final class ToyHouse {
             lacksInSome = 0;
             wholeInSome = 0;
             for (int sort = SORTS - 1; sort >= 0; sort--) {
-                weightFrom[sort] = weightFrom[sort + 1] + toy.has[sort] * toy.kind.weight[sort];
+                int has = toy.has[sort];
+                weightFrom[sort] = weightFrom[sort + 1] + has * toy.kind.weight[sort];
+                waysFrom[sort] = waysFrom[sort + 1] * (has + 1);
+                sortsFrom[sort] = has == 0 ? sortsFrom[sort + 1] : sortsFrom[sort + 1] | 1 << sort;
             }
             tryFrom(toy, 0, 0, 0, 0);
         }
@@ -1666,8 +1674,9 @@ public final class ToyHouse {
             if (weight > high || !within(sort, 0, SORTS) || weight + weightFrom[sort] < low) {
                 return;
             }
-            if (sort == SORTS) {
-                keep(lacking, lackingSorts);
+            // behind the last sort this is always so
+            if (weight >= low && weight + weightFrom[sort] <= high || sort == SORTS) {
+                keepAllFrom(sort, lacking, lackingSorts);
                 return;
             }
             for (int n = 0; n <= toy.has[sort]; n++) {
@@ -1677,13 +1686,15 @@ public final class ToyHouse {
             }
         }
 
-        private void keep(int lacking, int lackingSorts) {
+        /** Whatever lacks of the sorts from this one on, the weight is near enough; by the fewest nothing of them does. */
+        private void keepAllFrom(int sort, int lacking, int lackingSorts) {
             if (ways == 0 || lacking < fewest) {
                 fewest = lacking;
-                System.arraycopy(row, 0, fewestRow, 0, SORTS);
+                Arrays.fill(fewestRow, 0);
+                System.arraycopy(row, 0, fewestRow, 0, sort);
             }
-            ways++;
-            lacksInSome |= lackingSorts;
+            ways += waysFrom[sort];
+            lacksInSome |= lackingSorts | sortsFrom[sort];
             wholeInSome |= ALL_SORTS & ~lackingSorts;
         }
 
