@@ -50,6 +50,10 @@ public final class HouseBoundsTest extends Sentences {
         allBounds("toy of kind", 0, 7, k -> house(8, 0, 0).toy(k, 0) == 0);
         allBounds("pieces of kind", 0, 7, k -> house(8, 0, 0).pieces(k, 0, 1, 1));
         allBounds("waits for kind", 0, 7, k -> house(8, 0, 1).waits(0, k));
+        allBounds("leaves kind", 0, 7, k -> {
+            ToyHouse y = house(8, 0, 1);
+            return y.waits(0, k) && y.leaves(0, k) && !y.leaves(0, k);
+        });
         allBounds("whole of kind", 0, 7, k -> house(8, 0, 0).whole(k, 0) == 0);
         allBounds("how many wait for kind", 0, 7, k -> house(8, 0, 0).next(k, 2) == 0);
     }

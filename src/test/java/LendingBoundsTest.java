@@ -21,6 +21,39 @@ public final class LendingBoundsTest extends Sentences {
         return x;
     }
 
+    /** Each set of the reasons 2 to 7, as bits: the lowest of them is told, and 1 ahead of all. */
+    static void firstThatIsSo() {
+        of("Term 3", "NOT if (the first that is so)");
+        for (int reasons = 0; reasons < 256; reasons += 4) {
+            ToyHouse x = barredBy(reasons);
+            due("for reasons " + reasons, x.not(0, 0), reasons == 0 ? 0 : Integer.numberOfTrailingZeros(reasons));
+            due("lend for reasons " + reasons, x.lend(0, 0), reasons == 0 ? 21 : NONE);
+            x.cull(0);
+            due("culled or lent for reasons " + reasons, x.not(0, 0), 1);
+        }
+    }
+
+    private static boolean among(int reasons, int reason) {
+        return (reasons >> reason & 1) == 1;
+    }
+
+    private static ToyHouse barredBy(int reasons) {
+        ToyHouse x = new ToyHouse();
+        x.kind(0, 100, 0, 0, among(reasons, 4) ? 1 : 2);
+        x.toy(0, 50);
+        x.family(0, 0, 0);
+        rules(x, among(reasons, 2) ? "w(1=1)" : "w(1=2)");
+        lendAndBack(x, 0, 0);
+        if (among(reasons, 3)) {
+            x.recall(0, 50, 50);
+        }
+        if (among(reasons, 5)) {
+            x.gift(0, 1, 0);
+        }
+        rules(x, (among(reasons, 6) ? "a(1=2)" : "a(1=1)") + (among(reasons, 7) ? ";u(1=1)" : ";u(1=2)"));
+        return x;
+    }
+
     static void notInTheHouse() {
         of("Term 3", "1 it is not IN THE HOUSE");
         ToyHouse x = house();
@@ -267,6 +300,24 @@ public final class LendingBoundsTest extends Sentences {
         due("owed by family 1", x.owes(1), 21);
     }
 
+    static void washedIfAWHolds() {
+        of("Term 3", "if a w holds it must be WASHED.");
+        ToyHouse x = house();
+        rules(x, "w(m>1);w(t=1)");
+        lendAndBack(x, 0, 0, 1, 0, 1);
+        due("one lacks: none holds", x.toyIs(0, 5), 0);
+        lendAndBack(x, 0, 0, 1, 0, 0);
+        due("two lack: the first holds", x.toyIs(0, 5), 1);
+        lendAndBack(x, 1, 0, 2, 0, 1);
+        due("the second holds", x.toyIs(1, 5), 1);
+        due("not lent till then", x.lend(1, 0), NONE);
+        x.wash(1);
+        due("lent then", x.lend(1, 0), 21);
+        due("clean while it is lent", x.toyIs(1, 5), 0);
+        x.lost(1);
+        due("none is asked of a lost one", x.toyIs(1, 5), 0);
+    }
+
     static void lettersAsTheyComeBack() {
         of("Term 3", "(Letters as it is then, WEAR and PIECES as they come back, h with it.)");
         ToyHouse x = house();
@@ -336,7 +387,7 @@ public final class LendingBoundsTest extends Sentences {
 
     static void errors() {
         of("Term 3", "BY A WEIGHT with an error e (0 to 2000)");
-        bounds("e", 0, 2000, e -> weighed().weigh(0, 150, e, 0) > 0);
+        bounds("e", 0, 2000, e -> weighed().weigh(0, 150, e, 0) != NONE);
         due("e 0", weighed().weigh(0, 150, 0, 0), 1);
         due("e 2000: all ways", weighed().weigh(0, 150, 2000, 0), 24);
         due("2000 away from the full bag", weighed().weigh(0, 2150, 2000, 0), 1);
@@ -419,6 +470,11 @@ public final class LendingBoundsTest extends Sentences {
         due("90 lack: all", weighed().weigh(0, 60, 0, 2), 11);
         due("80 lack: 10 or 30 of sort 0 among them, so all", weighed().weigh(0, 70, 0, 2), 11);
         due("80 or 70 lack", weighed().weigh(0, 75, 5, 2), 2);
+        ToyHouse x = weighed();
+        due("nothing lacks", x.weigh(0, 150, 0, 1), 63);
+        due("all lack, asked of the same house", x.weigh(0, 50, 0, 2), 11);
+        due("nothing lacks, asked of the same house", x.weigh(0, 150, 0, 1), 63);
+        due("nothing lacks surely", x.weigh(0, 150, 0, 2), 0);
     }
 
     static void openSorts() {
@@ -446,6 +502,14 @@ public final class LendingBoundsTest extends Sentences {
         due("10 to 30 lack: one, the last sort of like ones", weighed().weigh(0, 130, 10, 13), 1);
         due("10 to 20 lack: one of sort 1", weighed().weigh(0, 135, 5, 11), 1);
         due("10 to 20 lack: none of sort 0", weighed().weigh(0, 135, 5, 10), 0);
+        // of one house, one behind the other
+        ToyHouse x = weighed();
+        due("all lack", x.weigh(0, 50, 0, 3), 6);
+        due("nothing lacks", x.weigh(0, 150, 2000, 3), 0);
+        for (int sort = 0; sort <= 5; sort++) {
+            due("nothing lacks of sort " + sort, x.weigh(0, 150, 2000, 10 + sort), 0);
+            due("all lacks of sort " + sort, x.weigh(0, 50, 0, 10 + sort), x.toyIs(0, 10 + sort));
+        }
     }
 
     // ---- made whole
@@ -488,6 +552,12 @@ public final class LendingBoundsTest extends Sentences {
         due("1 and 1 pieces: none", x.whole(0, 0), 0);
         due("none of them", x.whole(0, 2), 0);
         due("none moved", x.whole(0, 1), 0);
+        x = house();
+        lendAndBack(x, 0, 0, 2, 0, 0);
+        due("6 and 2 pieces: two", x.whole(0, 0), 2);
+        lendAndBack(x, 1, 0, 2, 0, 0);
+        lendAndBack(x, 2, 0, 2, 0, 0);
+        due("6 and 0 pieces: none", x.whole(0, 0), 0);
     }
 
     static void asManyAsThere() {

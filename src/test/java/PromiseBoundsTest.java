@@ -200,6 +200,19 @@ public final class PromiseBoundsTest extends Sentences {
         rules(x, "d200(1=1)" + ";a(1=1)".repeat(15));
         due("sixteen", x.count(4), 16);
         due("d of the last", x.lend(2, 0), 200);
+        String[] gone = {"a(1=2)", "u(1=1)", "d5(1=1)", "n9(1=1)"};
+        for (String clause : gone) {
+            x = house();
+            x.waits(0, 0);
+            rules(x, "o(1=2);" + clause);
+            due(clause + " is there", x.not(0, 0) == 0 && x.next(0, 1) == 0, clause.startsWith("d"));
+            for (int i = 0; i < 3; i++) {
+                rules(x, "o(1=2)");
+                due("not barred by " + clause + " before", x.not(0, 0), 0);
+                due("of no turn by " + clause + " before", x.next(0, 1), 0);
+            }
+            due("nor lent by " + clause + " before", x.lend(0, 0), 21);
+        }
     }
 
     static void p10fault() {
@@ -412,14 +425,17 @@ public final class PromiseBoundsTest extends Sentences {
         of("Promise 17", "NONE: no such ones (a weight 0 to 200000)");
         bounds("weight", 0, 200000, weight -> house().weigh(0, weight, 0, 0) != NONE);
         bounds("toy", 0, 2, t -> house().weigh(t, 45, 0, 0) == 1);
-        bounds("e", 0, 2000, e -> house().weigh(0, 45, e, 0) > 0);
+        bounds("e", 0, 2000, e -> house().weigh(0, 45, e, 0) != NONE);
         int[] want = {1, 63, 0, 0, NONE, NONE, NONE, NONE, NONE, NONE, 0, 0, 0, 0, 0, 0, NONE};
         for (int what = 0; what < want.length; what++) {
             due("what " + what, house().weigh(0, 45, 0, what), want[what]);
         }
         due("what -1", house().weigh(0, 45, 0, -1), NONE);
         due("what MAX", house().weigh(0, 45, 0, MAX), NONE);
-        due("a wrong what, and no way", house().weigh(0, 46, 0, 4), NONE);
+        int[] wrong = {-1, 4, 9, 16, MIN, MAX};
+        for (int what : wrong) {
+            due("no way, what " + what, house().weigh(0, 46, 0, what), NONE);
+        }
     }
 
     static void p17noWay() {
@@ -630,7 +646,7 @@ public final class PromiseBoundsTest extends Sentences {
     }
 
     static void p30recalled() {
-        of("Promise 30", "what 0 TOYS (bits), 1 FAMILIES that had one then (bits), 2 IN TIME (how many), 3 OPEN (bits)");
+        of("Promise 30", "what 0 TOYS (bits), 1 FAMILIES that had one then (bits), 2 IN TIME (how many), 3 OPEN (bits). NONE for others.");
         ToyHouse x = house(1, 16, 10);
         x.lend(15, 9);
         x.lend(0, 0);
@@ -700,7 +716,7 @@ public final class PromiseBoundsTest extends Sentences {
     }
 
     static void p34forgiving() {
-        of("Promise 34", "what 0 how many behind FORGIVEN ones, 1 of them LATE, 2 how many behind others, 3 of them LATE");
+        of("Promise 34", "what 0 how many behind FORGIVEN ones, 1 of them LATE, 2 how many behind others, 3 of them LATE. NONE for others.");
         bounds("what", 0, 3, what -> new ToyHouse().forgiving(what) == 0);
         ToyHouse x = house(1, 3, 2);
         rules(x, "d1(1=1);f1(1=1);o(t=0)");
@@ -822,6 +838,7 @@ public final class PromiseBoundsTest extends Sentences {
         due("the second byte", Dues.check(x, 0, 2, 0, 2 | 1 << 16, 2, 1), 1);
         due("the third byte", Dues.check(x, 0, 2, 0, 2, 2 | 1 << 8, 1), 2);
         due("below 0", Dues.check(x, 0, 2, 0, 2, 2, -1), 3);
+        due("the highest bit", Dues.check(x, 0, 2, 0, MIN | 2, 2, 1), 1);
         due("empty then, too", x.count(5), 0);
         taped(x, 40);
         due("not right", x.check(0, 0), 0);

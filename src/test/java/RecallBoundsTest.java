@@ -429,59 +429,76 @@ public final class RecallBoundsTest extends Sentences {
         due("nobody waits", x.unwanted(1), 3);
     }
 
-    /** A toy of a day that is dirty, lacks a piece, is worn, loud, too old and barred, as far as it is told. */
-    private static int why(boolean recalled, boolean dirty, boolean lacks, boolean worn, int noise, int age) {
+    private static boolean among(int reasons, int reason) {
+        return (reasons >> reason & 1) == 1;
+    }
+
+    /** Why a toy is unwanted for which these reasons (as bits) are so; its family's child is 4 years old. */
+    private static int why(int reasons, int noise, int age) {
         ToyHouse x = new ToyHouse();
-        x.kind(age, 100, noise, 0, worn ? 1 : 2);
+        x.kind(age, 100, noise, 0, among(reasons, 4) ? 1 : 2);
         x.pieces(0, 0, 1, 1);
         x.toy(0, 0);
         x.family(4, 0, 0);
-        if (dirty) {
-            rules(x, "w(1=1)");
-        }
-        lendAndBack(x, 0, 0, lacks ? 0 : 1);
-        if (recalled) {
+        rules(x, among(reasons, 2) ? "w(1=1)" : "w(1=2)");
+        lendAndBack(x, 0, 0, among(reasons, 3) ? 0 : 1);
+        if (among(reasons, 1)) {
             x.recall(0, 0, 0);
         }
-        x.gift(0, 1, 0);
+        if (among(reasons, 7)) {
+            x.gift(0, 1, 0);
+        }
         x.now(1);
         return x.why(0, 1);
     }
 
+    private static int why(int reasons) {
+        return why(reasons, among(reasons, 5) ? 7 : 6, among(reasons, 6) ? 5 : 4);
+    }
+
+    /** Each set of the reasons 1 to 7, as bits: the lowest of them is told, 8 if there is none. */
+    static void whyTheFirst() {
+        of("Term 5", "WHY, the first that is so");
+        for (int reasons = 0; reasons < 256; reasons += 2) {
+            due("for reasons " + reasons, why(reasons), reasons == 0 ? 8 : Integer.numberOfTrailingZeros(reasons));
+        }
+    }
+
     static void whyRecalled() {
         of("Term 5", "1 RECALLED");
-        due("all is so", why(true, true, true, true, 9, 15), 1);
-        due("all but that", why(false, true, true, true, 9, 15), 2);
-        due("that alone", why(true, false, false, false, 0, 0), 1);
+        due("all is so", why(0xFE), 1);
+        due("all but that", why(0xFC), 2);
+        due("that alone", why(1 << 1), 1);
     }
 
     static void whyWashed() {
         of("Term 5", "2 must be WASHED");
-        due("and all behind it", why(false, true, true, true, 9, 15), 2);
-        due("all behind it alone", why(false, false, true, true, 9, 15), 3);
-        due("that alone", why(false, true, false, false, 0, 0), 2);
+        due("and all behind it", why(0xFC), 2);
+        due("all behind it alone", why(0xF8), 3);
+        due("that alone", why(1 << 2), 2);
     }
 
     static void whyLacks() {
         of("Term 5", "3 lacks something");
-        due("and all behind it", why(false, false, true, true, 9, 15), 3);
-        due("all behind it alone", why(false, false, false, true, 9, 15), 4);
-        due("that alone", why(false, false, true, false, 0, 0), 3);
+        due("and all behind it", why(0xF8), 3);
+        due("all behind it alone", why(0xF0), 4);
+        due("that alone", why(1 << 3), 3);
     }
 
     static void whyWorn() {
         of("Term 5", "4 worn");
-        due("and all behind it", why(false, false, false, true, 9, 15), 4);
-        due("wear is one below: all behind it", why(false, false, false, false, 9, 15), 5);
-        due("that alone", why(false, false, false, true, 0, 0), 4);
+        due("and all behind it", why(0xF0), 4);
+        due("wear is one below: all behind it", why(0xE0), 5);
+        due("that alone", why(1 << 4), 4);
     }
 
     static void whyLoud() {
         of("Term 5", "5 NOISE 7 or more");
-        due("6", why(false, false, false, false, 6, 15), 6);
-        due("7", why(false, false, false, false, 7, 15), 5);
-        due("8", why(false, false, false, false, 8, 15), 5);
-        due("9", why(false, false, false, false, 9, 0), 5);
+        due("6", why(0, 6, 15), 6);
+        due("7", why(0, 7, 15), 5);
+        due("8", why(0, 8, 15), 5);
+        due("9", why(0, 9, 0), 5);
+        due("6, and nothing else", why(0, 6, 0), 8);
     }
 
     private static ToyHouse fromAge(int age) {
@@ -494,8 +511,8 @@ public final class RecallBoundsTest extends Sentences {
 
     static void whyTooOld() {
         of("Term 5", "6 its AGE above that of each youngest child (some FAMILY is there)");
-        due("as old as the child, barred", why(false, false, false, false, 0, 4), 7);
-        due("a year more, barred", why(false, false, false, false, 0, 5), 6);
+        due("as old as the child, barred", why(1 << 7, 0, 4), 7);
+        due("a year more, barred", why(1 << 7, 0, 5), 6);
         ToyHouse x = fromAge(5);
         due("no family is there", x.why(0, 1), 8);
         x.family(4, 0, 0);

@@ -76,6 +76,12 @@ public final class RulesBoundsTest extends Sentences {
         Dues.feedBytes(x, Dues.bytesOf(longest + " ".repeat(20)));
         due("201 bytes", x.rules(201), NONE);
         due("200 bytes", x.rules(200), 1);
+        x = one("a(1=1)");
+        x.waits(0, 0);
+        for (int i = 0; i < 5; i++) {
+            rules(x, "n0" + "1+".repeat(96) + "1(1=1)");
+            due("97 ones in 200 bytes, text " + i, x.next(0, 1), 97);
+        }
     }
 
     static void noBlanks() {
@@ -206,6 +212,9 @@ public final class RulesBoundsTest extends Sentences {
         due("p, the first", owed("p5(1=1);p6(1=1)"), 10);
         due("p, the second", owed("p5(1=2);p6(1=1)"), 12);
         due("p, none", owed("p5(1=2);p6(1=2)"), 0);
+        due("p of a lost one, the second", lost("p5(1=2);p6(1=1)"), 18);
+        due("p of a lost one, none", lost("p5(1=2);p6(1=2)"), 0);
+        due("p of a lost one, none there", lost("f5(1=1)"), 0);
         due("n, the first", turn("n5(1=1);n6(1=1)"), 5);
         due("n, the second", turn("n5(1=2);n6(1=1)"), 6);
         due("n, none", turn("n5(1=2);n6(1=2)"), 0);
@@ -379,6 +388,43 @@ public final class RulesBoundsTest extends Sentences {
         lent("k", x, 1, 0, 7);
     }
 
+    static void letterA() {
+        of("Term 2", "a its AGE");
+        due("0", turnOfKind(0, 9, 9, "na(1=1)"), 0);
+        due("15", turnOfKind(15, 9, 9, "na(1=1)"), 15);
+    }
+
+    static void letterP() {
+        of("Term 2", "p its PRICE");
+        due("1", turnOfKind(9, 1, 9, "np(1=1)"), 1);
+        due("20000", turnOfKind(9, 20000, 9, "np(1=1)"), 20000);
+    }
+
+    static void letterZ() {
+        of("Term 2", "z its NOISE");
+        due("0", turnOfKind(9, 9, 0, "nz(1=1)"), 0);
+        due("9", turnOfKind(8, 8, 9, "nz(1=1)"), 9);
+    }
+
+    private static int turnOfKind(int age, int price, int noise, String text) {
+        ToyHouse x = new ToyHouse();
+        x.kind(age, price, noise, 0, 1);
+        x.family(0, 0, 0);
+        x.waits(0, 0);
+        rules(x, text);
+        return x.next(0, 1);
+    }
+
+    static void lettersOfFamilies() {
+        of("Term 2", "y the age of the youngest child, e NEED, v the VILLAGE");
+        ToyHouse x = house(1, 2, 0);
+        x.family(15, 9, 4);
+        x.family(0, 0, 0);
+        rules(x, "d1+y+e*10+v(1=1)");
+        due("at their most", x.lend(0, 0), 1 + 15 + 90 + 4);
+        due("at their least", x.lend(1, 1), 1);
+    }
+
     static void letterW() {
         of("Term 2", "w its WEAR");
         ToyHouse x = house(1, 1, 1);
@@ -471,14 +517,15 @@ public final class RulesBoundsTest extends Sentences {
 
     static void letterL() {
         of("Term 2", "l how many DAYS late it is (0: not)");
-        due("the day before", fineOn(4), 0);
-        due("on the day", fineOn(5), 0);
-        due("the day behind", fineOn(6), 1);
-        due("on the last day", fineOn(699), 694);
+        due("on the day on which it was lent", fineOn(0), 100);
+        due("the day before", fineOn(4), 100);
+        due("on the day", fineOn(5), 100);
+        due("the day behind", fineOn(6), 101);
+        due("on the last day", fineOn(699), 794);
     }
 
     private static int fineOn(int day) {
-        ToyHouse x = one("d5(1=1);fl(1=1)");
+        ToyHouse x = one("d5(1=1);f100+l(1=1)");
         x.lend(0, 0);
         x.now(day);
         return back(x, 0, 3);
@@ -568,6 +615,16 @@ public final class RulesBoundsTest extends Sentences {
         x.lend(0, 0);
         x.now(9);
         due("come back late", back(x, 0), 3 * 14);
+        x = house(1, 0, 1);
+        x.pieces(0, 0, 3, 1);
+        x.toy(0, 0);
+        x.toy(0, 0);
+        rules(x, "d5(1=1);p10+l(1=1)");
+        x.lend(0, 0);
+        x.lend(1, 0);
+        x.now(9);
+        due("one that comes back late", back(x, 0), 3 * 14);
+        due("one that is lost then", x.lost(1), 30);
     }
 
     private static int lostOn(int day) {
@@ -624,6 +681,11 @@ public final class RulesBoundsTest extends Sentences {
         due("u", whyNot("u(1/0=0)"), 0);
         due("w", mustBeWashed("w(1/0=0)"), 0);
         due("o", owed("f9(1=1);o(1/0=0)"), 9);
+        ToyHouse x = one("n1(1+1/0=1);n7(1+[1+[1+[1+[1+1]]]]=6)");
+        x.waits(0, 0);
+        for (int i = 0; i < 200; i++) {
+            due("refused again and again", x.next(0, 1), 7);
+        }
     }
 
     static void asMuchAsMatters() {

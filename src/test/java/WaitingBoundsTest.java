@@ -66,6 +66,11 @@ public final class WaitingBoundsTest extends Sentences {
         due("longer before lower", x.next(0, 0), 1);
         rules(x, "n1(y=0)");
         due("a greater turn before longer", x.next(0, 0), 0);
+        x = house(1, 0, 2);
+        x.waits(0, 0);
+        x.now(1);
+        x.waits(1, 0);
+        due("longer and lower", x.next(0, 0), 0);
     }
 
     // ---- buying
@@ -183,6 +188,14 @@ public final class WaitingBoundsTest extends Sentences {
         due("in 6 weeks kind 2 serves as many", x.buying(199, 6, -1), 2);
         due("of like ones the least row: kind 2 alone", x.buying(199, 6, 2), 1);
         due("of like ones the least row: none of kind 0", x.buying(199, 6, 0), 0);
+        ToyHouse y = new ToyHouse();
+        y.kind(0, 99, 0, 0, 9);
+        y.kind(0, 100, 0, 0, 9);
+        y.family(0, 0, 0);
+        y.waits(0, 0);
+        y.waits(0, 1);
+        due("of least coin before the least row: kind 0", y.buying(100, 3, 0), 1);
+        due("of least coin before the least row: not kind 1", y.buying(100, 3, 1), 0);
         due("of two like kinds the last", wanting(2).buying(100, 3, 0), 0);
         due("of two like kinds the last", wanting(2).buying(100, 3, 1), 1);
         due("of two like kinds two of the last", wanting(2).buying(200, 3, 1), 2);
@@ -208,6 +221,12 @@ public final class WaitingBoundsTest extends Sentences {
         due("five families alone", village(16, 5).van(0, 6, 0), 31);
         due("no toys", village(0, 10).van(0, 6, 1), 0);
         due("no families", village(16, 0).van(0, 6, 0), 0);
+        ToyHouse x = village(16, 10);
+        rules(x, "a(t=15&y=9)");
+        due("the last toy to the last family", x.van(0, 1, 0), 1 << 15);
+        due("the last family", x.van(0, 6, 1), 1);
+        rules(x, "a(t=14|t=15&y=9)");
+        due("the last two toys", x.van(0, 6, 0), 3 << 14);
     }
 
     static void familiesOfVillage() {
@@ -336,6 +355,14 @@ public final class WaitingBoundsTest extends Sentences {
         due("one in 5999", x.mending(5999, 0), 2);
         due("its minutes", x.mending(5999, 1), 2400);
         due("none in 0", x.mending(0, 0), 0);
+        ToyHouse y = broken(1, 1, 1, 1, 1, 1, 1, 1, 1, 1, 1, 1, 1, 1, 1, 1);
+        due("sixteen toys", y.mending(160, 0), 0xFFFF);
+        due("all but the last", y.mending(159, 0), 0x7FFF);
+        due("they count for", y.mending(160, 2), 16);
+        y.minutes(0, 375);
+        due("sixteen toys in 6000", y.mending(6000, 1), 6000);
+        y.minutes(0, 376);
+        due("fifteen toys in 6000", y.mending(6000, 1), 15 * 376);
     }
 
     static void notAbove() {
