@@ -515,7 +515,7 @@ public final class LendingBoundsTest extends Sentences {
     // ---- made whole
 
     static void wholeOfThoseInTheHouse() {
-        of("Term 3", "of all TOYS of it IN THE HOUSE (RECALLED ones aside)");
+        of("Term 3", "WHOLE TOYS of a KIND: of all TOYS of it IN THE HOUSE (RECALLED ones aside)");
         ToyHouse x = house();
         x.kind(0, 1, 0, 1, 9);
         x.toy(1, 0);

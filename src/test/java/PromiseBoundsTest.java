@@ -225,7 +225,7 @@ public final class PromiseBoundsTest extends Sentences {
         due("2 at 6", Dues.rules(x, "d123456(1=1)"), -2006);
         due("4 at 112", Dues.rules(x, "u(1=1);".repeat(17)), -4112);
         due("5 at 7", Dues.rules(x, "u(((((((1=1)))))))"), -5007);
-        due("5 at 199", Dues.rules(x, "u(" + "0+".repeat(94) + "0=[[[[[[[["), -5197);
+        due("5 at 197", Dues.rules(x, "u(" + "0+".repeat(94) + "0=[[[[[[[["), -5197);
         due("clauses of the text before", x.count(4), 2);
         due("a of the text before", x.not(0, 1), 6);
         due("no u of the others", x.not(0, 0), 0);

@@ -58,7 +58,10 @@ abstract class Sentences {
         dues.due(method.getName() + " asks on both sides", bothSides, true);
     }
 
-    /** Begins the dues of a sentence: a section is "Term 1" to "Term 5", "Promise 1" to "Promise 41", "What it is". */
+    /**
+     * Begins the dues of a sentence: a section is "Term 1" to "Term 5", "Promise 1" to "Promise 41", "What it is" or
+     * "The constants".
+     */
     static void of(String section, String words) {
         sentence = section + ", \"" + words + "\"";
         SECTIONS.add(section);
@@ -72,6 +75,9 @@ abstract class Sentences {
     private static String textOf(String section) {
         if (section.equals("Term 5")) {
             return between("==== 5.", "The constants:");
+        }
+        if (section.equals("The constants")) {
+            return between("The constants:", "## ");
         }
         if (section.startsWith("Term ")) {
             int number = Integer.parseInt(section.substring(5));
